@@ -1,0 +1,66 @@
+import java.util.function.Consumer;
+import java.util.function.Supplier;
+
+/** Compares answers with the ones that are due, prints what is wrong, and ends the test. */
+final class Check {
+    private static int wrong = 0;
+    private static int asked = 0;
+
+    private Check() {
+    }
+
+    /** A call that may throw, with its answer. */
+    interface Call {
+        Object on(Morphichall hall);
+    }
+
+    static void due(String call, Object got, Object want) {
+        asked++;
+        if (!String.valueOf(got).equals(String.valueOf(want))) {
+            wrong++;
+            System.out.println(call + " answered " + got + ", due is " + want);
+        }
+    }
+
+    /** The answer of a call as a text, the name of the exception if it throws. */
+    static String answer(Morphichall hall, Call call) {
+        try {
+            return String.valueOf(call.on(hall));
+        } catch (RuntimeException e) {
+            return "throws." + e.getClass().getSimpleName();
+        }
+    }
+
+    static void dueThrow(String call, Morphichall hall, Class<? extends RuntimeException> want, Call made) {
+        due(call, answer(hall, made), "throws." + want.getSimpleName());
+    }
+
+    /**
+     * The call throws what is due, and afterwards all that can be seen of the hall is as if it had not been made:
+     * two halls are prepared alike, and only one of them gets the call.
+     */
+    static void dueThrowLeavesAll(String call, Consumer<Morphichall> preparation,
+            Class<? extends RuntimeException> want, Call made) {
+        Morphichall touched = prepared(preparation);
+        Morphichall untouched = prepared(preparation);
+        dueThrow(call, touched, want, made);
+        due("all that is seen after " + call, View.of(touched), View.of(untouched));
+    }
+
+    static Morphichall prepared(Consumer<Morphichall> preparation) {
+        Morphichall hall = new Morphichall();
+        preparation.accept(hall);
+        return hall;
+    }
+
+    static void due(String call, Supplier<Object> got, Object want) {
+        due(call, got.get(), want);
+    }
+
+    static void end(String name) {
+        System.out.println(name + ": " + asked + " answers, " + wrong + " wrong");
+        if (wrong != 0) {
+            System.exit(1);
+        }
+    }
+}
