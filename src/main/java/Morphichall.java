@@ -659,7 +659,7 @@ public final class Morphichall {
             return parts[number * PARTS + part];
         }
 
-        private int firstSlot(long a, long b, long c, long d) {
+        private static int firstSlot(long a, long b, long c, long d) {
             long mixed = ((a * 31 + b) * 31 + c) * 31 + d;
             return (int) ((mixed * 0x9E3779B97F4A7C15L) >>> 52) & (SLOTS - 1);
         }
@@ -863,9 +863,11 @@ public final class Morphichall {
             text[length] = 1;
             length++;
             int lengthBefore = 1;
+            int told = 0;
             for (int turn = 1; turn < TEXT_PLACES && length < TEXT_PLACES; turn++) {
+                told = told + 1 < rowLength ? told + 1 : 0;
                 int end = length;
-                for (int i = 1; i < row[turn % rowLength]; i++) {
+                for (int i = 1; i < row[told]; i++) {
                     end = appendBeginning(length, end);
                 }
                 end = appendBeginning(lengthBefore, end);
@@ -1165,7 +1167,7 @@ public final class Morphichall {
             findMet(raw);
             keys.clear();
             for (int i = 0; i < met; i++) {
-                classes[order[i]] = keys.put(raw.gives[order[i]]);
+                classes[order[i]] = keys.putFour(raw.gives[order[i]], 0, 0, 0);
             }
             int found = keys.size;
             for (int round = 0; round < met && found < met; round++) {
@@ -1180,9 +1182,9 @@ public final class Morphichall {
             return found;
         }
 
-        /** The beginning is the first in the order, so its class is the state 0. */
-        void reduceInto(Formula raw, Formula out) {
-            out.begin(raw.mask, classify(raw));
+        /** Each class becomes a state; the beginning is the first in the order, so that its class is the state 0. */
+        void writeClasses(Formula raw, Formula out, int found) {
+            out.begin(raw.mask, found);
             int written = 0;
             for (int i = 0; i < met; i++) {
                 int state = order[i];
@@ -1222,7 +1224,7 @@ public final class Morphichall {
             keys.clear();
             for (int i = 0; i < met; i++) {
                 int state = order[i];
-                fresh[state] = keys.put(classes[state] * 256L + classes[raw.after(state, sign)]);
+                fresh[state] = keys.putFour(classes[state], classes[raw.after(state, sign)], 0, 0);
             }
             for (int i = 0; i < met; i++) {
                 classes[order[i]] = fresh[order[i]];
@@ -1234,7 +1236,6 @@ public final class Morphichall {
     /** The formulas on the stack, and the rows in which new ones are made. */
     private static final class Prover {
         private static final int SET_PARTS = 4;
-        private static final int PAIR = 256;
 
         private final Keys keys;
         private final Reducer reducer;
@@ -1360,15 +1361,15 @@ public final class Morphichall {
             Formula other = top();
             raw.begin(one.mask | other.mask, 0);
             keys.clear();
-            keys.put(0);
+            keys.putFour(0, 0, 0, 0);
             for (int pair = 0; pair < keys.size && pair < MOST_STATES; pair++) {
-                int p = (int) (keys.part(pair, 0) / PAIR);
-                int q = (int) (keys.part(pair, 0) % PAIR);
+                int p = (int) keys.part(pair, 0);
+                int q = (int) keys.part(pair, 1);
                 int both = one.gives[p] + other.gives[q];
                 raw.gives[pair] = both >= (isAnd ? 2 : 1) ? 1 : 0;
                 for (int i = 0; i < raw.signCount; i++) {
                     int sign = raw.signs[i];
-                    int to = keys.put((long) one.after(p, sign) * PAIR + other.after(q, sign));
+                    int to = keys.putFour(one.after(p, sign), other.after(q, sign), 0, 0);
                     if (to < 0 || to >= MOST_STATES) {
                         return false;
                     }
@@ -1376,7 +1377,7 @@ public final class Morphichall {
                 }
             }
             raw.size = keys.size;
-            reducer.reduceInto(raw, one);
+            reducer.writeClasses(raw, one, reducer.classify(raw));
             size--;
             return true;
         }
@@ -1410,7 +1411,7 @@ public final class Morphichall {
                 }
             }
             raw.size = keys.size;
-            reducer.reduceInto(raw, changed);
+            reducer.writeClasses(raw, changed, reducer.classify(raw));
             return true;
         }
 
@@ -1474,7 +1475,8 @@ public final class Morphichall {
         }
 
         private int pushRaw() {
-            reducer.reduceInto(raw, stack[Math.min(size, MOST_FORMULAS - 1)]);
+            Formula pushed = stack[Math.min(size, MOST_FORMULAS - 1)];
+            reducer.writeClasses(raw, pushed, reducer.classify(raw));
             size = Math.min(size + 1, MOST_FORMULAS);
             return size;
         }
@@ -1944,7 +1946,7 @@ public final class Morphichall {
             int y = 0;
             int direction = 0;
             keys.clear();
-            keys.put(spot(x, y));
+            keys.putFour(x, y, 0, 0);
             for (int place = 0; place < places && place < text.length; place++) {
                 char command = commands[text[place]];
                 if (command == 'l') {
@@ -1954,14 +1956,10 @@ public final class Morphichall {
                 } else if (command == 'f') {
                     x += direction == 0 ? 1 : direction == 2 ? -1 : 0;
                     y += direction == 1 ? 1 : direction == 3 ? -1 : 0;
-                    keys.put(spot(x, y));
+                    keys.putFour(x, y, 0, 0);
                 }
             }
             return what == 'x' ? x : what == 'y' ? y : keys.size;
-        }
-
-        private static long spot(int x, int y) {
-            return x * 65536L + y;
         }
     }
 }

@@ -66,6 +66,9 @@ final class WordsTest {
         Check.dueThrow("4: a seventh of 5", hall, ARGUMENT, h -> h.morphism(5));
         Check.due("4: each letter is its own image", hall.uniform(2), 1);
         Check.due("4: each letter stays itself", hall.grown(2, 'd', 20), 1);
+        Halls.type(hall, "abcd");
+        hall.setImage(2, 'a');
+        Check.due("4: the others are still themselves", Halls.text(hall, hall.fixed(2), 0, 12), "abcdbcdbcdbc");
         for (int none : new int[] {1, 5, 0, -1, Integer.MIN_VALUE, Integer.MAX_VALUE}) {
             Check.dueThrowLeavesAll("4: morphism(" + none + ")", Halls::fill, ARGUMENT, h -> h.morphism(none));
         }
