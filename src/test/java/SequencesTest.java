@@ -204,11 +204,13 @@ final class SequencesTest {
     private static void least() {
         Morphichall hall = new Morphichall();
         Check.due("18: one letter", hall.least(hall.automaton(4, 8)), 1);
-        Check.due("18: told apart by the digit 1 alone", hall.least(Halls.automaton(hall, "a01", "b23", "a20", "b01")), 4);
+        Check.due("18: told apart by the digit 1 alone",
+                hall.least(Halls.automaton(hall, "a01", "b23", "a20", "b01")), 4);
         Check.due("18: two and two alike", hall.least(Halls.automaton(hall, "a01", "b32", "a23", "b10")), 2);
         Check.due("18: states that are not met", hall.least(Halls.automaton(hall, "a00", "b12", "c01")), 1);
         Check.due("18: met by a nought ahead alone", hall.least(Halls.automaton(hall, "a10", "b11")), 2);
-        Check.due("18: all eight", hall.least(Halls.automaton(hall, "a12", "a23", "a34", "a45", "a56", "a67", "a77", "b00")), 8);
+        Check.due("18: all eight",
+                hall.least(Halls.automaton(hall, "a12", "a23", "a34", "a45", "a56", "a67", "a77", "b00")), 8);
         Check.due("18: of base 3", hall.least(Halls.automaton(hall, "a012", "b120", "c201", "a012")), 3);
         Check.dueThrowLeavesAll("18: one by letters", Halls::fill, UNSUPPORTED, h -> h.least(0));
         Check.dueThrowLeavesAll("18: no such sequence", Halls::fill, INDEX, h -> h.least(3));
