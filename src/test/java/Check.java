@@ -10,7 +10,7 @@ final class Check {
     }
 
     /** A call that may throw, with its answer. */
-    interface Call {
+    interface Asked {
         Object on(Morphichall hall);
     }
 
@@ -23,7 +23,7 @@ final class Check {
     }
 
     /** The answer of a call as a text, the name of the exception if it throws. */
-    static String answer(Morphichall hall, Call call) {
+    static String answer(Morphichall hall, Asked call) {
         try {
             return String.valueOf(call.on(hall));
         } catch (RuntimeException e) {
@@ -31,20 +31,23 @@ final class Check {
         }
     }
 
-    static void dueThrow(String call, Morphichall hall, Class<? extends RuntimeException> want, Call made) {
+    static void dueThrow(String call, Morphichall hall, Class<? extends RuntimeException> want, Asked made) {
         due(call, answer(hall, made), "throws." + want.getSimpleName());
     }
 
     /**
      * The call throws what is due, and afterwards all that can be seen of the hall is as if it had not been made:
-     * two halls are prepared alike, and only one of them gets the call.
+     * halls are prepared alike, and only some of them get the call.
      */
     static void dueThrowLeavesAll(String call, Consumer<Morphichall> preparation,
-            Class<? extends RuntimeException> want, Call made) {
-        Morphichall touched = prepared(preparation);
-        Morphichall untouched = prepared(preparation);
-        dueThrow(call, touched, want, made);
-        due("all that is seen after " + call, View.of(touched), View.of(untouched));
+            Class<? extends RuntimeException> want, Asked made) {
+        dueThrow(call, prepared(preparation), want, made);
+        String touched = View.of(() -> {
+            Morphichall hall = prepared(preparation);
+            answer(hall, made);
+            return hall;
+        });
+        due("all that is seen after " + call, touched, View.of(() -> prepared(preparation)));
     }
 
     static Morphichall prepared(Consumer<Morphichall> preparation) {

@@ -20,6 +20,10 @@ final class PlainHall {
     private final List<Integer> slopeRow = new ArrayList<>();
     private final List<Line> lines = new ArrayList<>();
     private final List<Dfa> stack = new ArrayList<>();
+    /** With more states on the way a formula is refused; a test may lift it, to see how many there are. */
+    int most = 200;
+    /** How many pairs or sets there were on the last way. */
+    int met;
     private final List<Table> tables = new ArrayList<>();
     private final char[] commands = {'-', '-', '-', '-'};
     private static final Map<String, Integer> AVOIDERS = new HashMap<>();
@@ -667,10 +671,11 @@ final class PlainHall {
             boolean p = one.good[Integer.parseInt(s.split(" ")[0])];
             boolean q = other.good[Integer.parseInt(s.split(" ")[1])];
             return isAnd ? p && q : p || q;
-        }, 200);
+        }, most);
         if (both == null) {
             throw new UnsupportedOperationException();
         }
+        met = both.next.length;
         stack.remove(stack.size() - 1);
         stack.remove(stack.size() - 1);
         Test p = one.test;
@@ -711,10 +716,11 @@ final class PlainHall {
                 to.add(old.next[state][sign(b) | 1 << x]);
             }
             return to.toString();
-        }, s -> members(s).stream().anyMatch(state -> old.good[state]), 200);
+        }, s -> members(s).stream().anyMatch(state -> old.good[state]), most);
         if (made == null) {
             throw new UnsupportedOperationException();
         }
+        met = made.next.length;
         stack.remove(stack.size() - 1);
         push(made, (old.mask >> x & 1) == 0 ? old.test : null);
         return top().good.length;

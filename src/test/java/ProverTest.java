@@ -207,14 +207,9 @@ final class ProverTest {
         Check.dueThrowLeavesAll("29: one alone", h -> h.less(0, 1), NO_ELEMENT, h -> h.join(false));
     }
 
-    /** A row of 8 states in which each digit counts: to be told apart, it is its state that has to be known. */
-    private static int ring(Morphichall hall) {
-        return Halls.automaton(hall, "a01", "a12", "a23", "a34", "a45", "a56", "a67", "b70");
-    }
-
     /** Two letters of two places each, with 64 states, and a difference that is known by 3 more. */
     private static void manyPairs(Morphichall hall) {
-        int ring = ring(hall);
+        int ring = Halls.automaton(hall, Halls.ring(8));
         hall.letterIs(ring, 0, 'b');
         hall.letterIs(ring, 1, 'b');
         hall.join(true);
@@ -240,7 +235,7 @@ final class ProverTest {
             h.drop();
             h.drop();
             h.drop();
-            int ring = ring(h);
+            int ring = Halls.automaton(h, Halls.ring(8));
             for (int i = 0; i < 3; i++) {
                 h.letterIs(ring, i, 'b');
                 if (i == 1) {
@@ -252,7 +247,7 @@ final class ProverTest {
     }
 
     private static Morphichall withTurning(int states) {
-        return Check.prepared(hall -> Halls.automaton(hall, turning(states)));
+        return Check.prepared(hall -> Halls.automaton(hall, Halls.ring(states)));
     }
 
     private static void dueLimit() {
@@ -357,21 +352,13 @@ final class ProverTest {
 
     /** How many ones x has, and y, by their rests, and what both are together; x and y are then forgotten. */
     private static void makeRests(Morphichall hall, int one, int other) {
-        int first = Halls.automaton(hall, turning(one));
-        int second = Halls.automaton(hall, turning(other));
+        int first = Halls.automaton(hall, Halls.ring(one));
+        int second = Halls.automaton(hall, Halls.ring(other));
         hall.letterIs(first, 0, 'b');
         hall.letterIs(second, 1, 'b');
         hall.join(true);
         hall.sum(0, 1, 2);
         hall.join(true);
-    }
-
-    private static String[] turning(int states) {
-        String[] out = new String[states];
-        for (int state = 0; state < states; state++) {
-            out[state] = (state == states - 1 ? "b" : "a") + state + (state + 1) % states;
-        }
-        return out;
     }
 
     private static void existsRefused() {
