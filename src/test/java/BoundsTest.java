@@ -9,6 +9,7 @@ final class BoundsTest {
     }
 
     public static void main(String[] args) {
+        HallBounds.check();
         WordBounds.check();
         SequenceBounds.check();
         NumerationBounds.check();
@@ -19,6 +20,7 @@ final class BoundsTest {
         PathBounds.check();
         List<String> first = List.of("What it is: " + Doc.allOf("What it is").get(0));
         Check.due("sentences that no check stands under", Doc.leftOver(), first);
+        Check.due("methods whose exceptions were mixed", Refusals.methods(), Call.throwingMethods());
         Check.end("BoundsTest");
     }
 }

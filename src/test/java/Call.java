@@ -2,6 +2,8 @@ import java.lang.reflect.InvocationTargetException;
 import java.lang.reflect.Method;
 import java.util.HashMap;
 import java.util.Map;
+import java.util.Set;
+import java.util.TreeSet;
 
 /** Calls of the face by their names, on the hall or on the plain one. */
 final class Call {
@@ -62,6 +64,16 @@ final class Call {
 
     static Class<?>[] listedExceptions(String name) {
         return METHODS.get(name).getExceptionTypes();
+    }
+
+    static Set<String> throwingMethods() {
+        Set<String> out = new TreeSet<>();
+        METHODS.forEach((name, method) -> {
+            if (method.getExceptionTypes().length > 0) {
+                out.add(name);
+            }
+        });
+        return out;
     }
 
     static int argumentCount(String name) {

@@ -89,6 +89,7 @@ final class MatrixBounds extends Bounds {
         while (!Call.answer(Check.prepared(made), "term", count, 0).startsWith("throws.")) {
             count++;
         }
+        Refusals.mixedElsewhere("entry");
         String untouched = View.of(maker(made));
         for (int regular : new int[] {-1, 0, count, Integer.MIN_VALUE, Integer.MAX_VALUE}) {
             for (char part : "l01rx".toCharArray()) {

@@ -57,7 +57,7 @@ final class PatternBounds extends Bounds {
             for (int length = 0; length <= 10; length++) {
                 terms("A pattern is the word as it is typed; a word has it if some neighbouring pieces of it");
                 due(plain.avoiders(2, length), word(pattern), "avoiders", 2, length);
-                if (length <= 7 || pattern.length() >= 9 && length == 10) {
+                if (length <= 7 || pattern.equals("ababababab")) {
                     due(plain.avoiders(3, length), word(pattern), "avoiders", 3, length);
                 }
             }

@@ -5,6 +5,7 @@ import java.util.LinkedHashSet;
 import java.util.List;
 import java.util.Map;
 import java.util.Set;
+import java.util.TreeSet;
 import java.util.function.Consumer;
 
 /**
@@ -14,6 +15,7 @@ import java.util.function.Consumer;
  */
 final class Refusals {
     private static final int CALLS_OF_A_HALL = 400;
+    private static final Set<String> METHODS = new TreeSet<>();
 
     private final String section;
     private final String method;
@@ -26,6 +28,7 @@ final class Refusals {
     Refusals(int promise, String method) {
         this.section = "Promise " + promise;
         this.method = method;
+        METHODS.add(method);
         Check.due("the title of " + section, Doc.titleOf(section), method);
         for (String sentence : Doc.allOf(section)) {
             if (sentence.startsWith("Throws `")) {
@@ -33,6 +36,16 @@ final class Refusals {
             }
         }
         Check.due("exceptions as they are listed for " + method, Arrays.asList(Call.listedExceptions(method)), listed);
+    }
+
+    /** A method whose calls are mixed elsewhere, since what is right for one argument hangs on another one. */
+    static void mixedElsewhere(String method) {
+        METHODS.add(method);
+    }
+
+    /** The methods whose calls were mixed so. */
+    static Set<String> methods() {
+        return METHODS;
     }
 
     private static Class<?> named(String name) {

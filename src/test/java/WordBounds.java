@@ -51,8 +51,6 @@ final class WordBounds extends Bounds {
         due(1, NEW, "command", 'a', 'f');
         due(7, NEW, "checksum");
         due(true, NEW, "isSound");
-        Check.prepared(Halls::fillUp);
-        is("a new hall when another one is full", View.of(Morphichall::new), View.of(maker(NEW)));
     }
 
     private static void type() {
@@ -119,8 +117,9 @@ final class WordBounds extends Bounds {
     }
 
     private static void setImage() {
-        Refusals refusals = new Refusals(5, "setImage").hall("a word of 1", thenWord("b")).hall("a word of 6", thenWord("abbaab"))
-                .hall("an empty word", thenWord(""), ARGUMENT).hall("a word of 7", thenWord("abbaabb"), ARGUMENT)
+        Refusals refusals = new Refusals(5, "setImage").hall("a word of 1", thenWord("b"))
+                .hall("a word of 6", thenWord("abbaab")).hall("an empty word", thenWord(""), ARGUMENT)
+                .hall("a word of 7", thenWord("abbaabb"), ARGUMENT)
                 .hall("a word of 40", Halls.withWord(40), ARGUMENT)
                 .hall("a word with a third letter", thenWord("abbaac"), ARGUMENT)
                 .hall("a third letter alone", thenWord("c"), ARGUMENT);
@@ -210,7 +209,8 @@ final class WordBounds extends Bounds {
         for (int letters = 2; letters <= 4; letters++) {
             latestTime = 0;
             everySetOfImages(letters);
-            is("the latest first time of any of " + letters + " letters", latestTime, (letters - 1) * (letters - 1) + 1);
+            int latest = (letters - 1) * (letters - 1) + 1;
+            is("the latest first time of any of " + letters + " letters", latestTime, latest);
         }
         promise(7, "Returns true if so.");
         due(true, hall -> Halls.morphism(hall, "b", "c", "d", "ab"), "isPrimitive", 0);
