@@ -32,9 +32,37 @@ abstract class Bounds {
         Check.due(where + what, got, want);
     }
 
-    /** The call's answer on a hall that was made so. */
+    /** The call's answer on a hall that was made so, also if its rows have been used before. */
     static void due(Object want, Consumer<Morphichall> made, String name, Object... arguments) {
         next(want, Check.prepared(made), name, arguments);
+        next(want, Check.prepared(worn(made)), name, arguments);
+    }
+
+    static Consumer<Morphichall> worn(Consumer<Morphichall> made) {
+        return hall -> {
+            wear(hall);
+            made.accept(hall);
+        };
+    }
+
+    /** Calls after which nothing has changed, but that have filled what a hall may write on as it counts. */
+    private static void wear(Morphichall hall) {
+        Halls.type(hall, "aab");
+        hall.avoiders(2, 7);
+        Halls.type(hall, "ddddddd");
+        hall.wipe();
+        hall.digits('2', 1000000);
+        hall.sum(0, 1, 2);
+        hall.sum(2, 3, 4);
+        hall.join(false);
+        hall.less(0, 4);
+        hall.join(false);
+        hall.number(1, 20);
+        hall.join(false);
+        hall.exists(3);
+        hall.holds(1, 2, 3, 4, 5);
+        hall.count(0, 1000);
+        hall.drop();
     }
 
     /** The call's answer on this hall, as its next one. */

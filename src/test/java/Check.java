@@ -1,5 +1,4 @@
 import java.util.function.Consumer;
-import java.util.function.Supplier;
 
 /** Compares answers with the ones that are due, prints what is wrong, and ends the test. */
 final class Check {
@@ -54,10 +53,6 @@ final class Check {
         Morphichall hall = new Morphichall();
         preparation.accept(hall);
         return hall;
-    }
-
-    static void due(String call, Supplier<Object> got, Object want) {
-        due(call, got.get(), want);
     }
 
     static void end(String name) {

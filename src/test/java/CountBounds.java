@@ -25,6 +25,7 @@ final class CountBounds extends Bounds {
         }
         lastPlaces();
         shortest();
+        oneAfterAnother();
     }
 
     private static void refusals() {
@@ -172,6 +173,31 @@ final class CountBounds extends Bounds {
             due(place < 999 ? 1.0 / 999.0 : 0.0, hall -> Halls.automaton(hall, Halls.onlyAt(place)), "meanLetter",
                     0, 999);
         }
+    }
+
+    /** What was written for a sequence makes no difference for another one, as far as it may have been written. */
+    private static void oneAfterAnother() {
+        Consumer<Morphichall> three = hall -> {
+            hall.fixed(Halls.morphism(hall, "ab", "b"));
+            Halls.automaton(hall, "b01", "a10");
+            Halls.automaton(hall, "d0000");
+        };
+        Consumer<Morphichall> written = then(three, "kernel", 2, 4);
+        Object[][] greatest = {{39, "pieces", 12}, {40, "piecesByCounts", 60}, {41, "palindromes", 12},
+            {42, "exponent", 120}, {50, "meanLetter", 1000}};
+        for (Object[] asked : greatest) {
+            String name = (String) asked[1];
+            promise((int) asked[0], "Returns");
+            for (int sequence = 0; sequence < 3; sequence++) {
+                for (int number = 1; number <= (int) asked[2]; number += number < 12 ? 1 : 12) {
+                    due(Call.answer(Check.prepared(three), name, sequence, number), written, name, sequence, number);
+                }
+                due(Call.answer(Check.prepared(three), name, sequence, asked[2]), written, name, sequence, asked[2]);
+            }
+        }
+        promise(50, "Returns their sum divided by how many, both converted to double.");
+        due(999.0 / 1000.0, written, "meanLetter", 0, 1000);
+        due(998.0 / 999.0, written, "meanLetter", 0, 999);
     }
 
     private static void shortest() {

@@ -60,6 +60,12 @@ final class Doc {
         return SECTIONS.get(section);
     }
 
+    /** The first sentence of the section that has these words. */
+    static String sentence(String section, String words) {
+        return SECTIONS.getOrDefault(section, List.of()).stream().filter(each -> each.contains(words)).findFirst()
+                .orElse("");
+    }
+
     /** Every sentence of the section that has these words is looked at; there must be one. */
     static void lookAt(String section, String words) {
         boolean found = false;

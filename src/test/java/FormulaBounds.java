@@ -98,7 +98,11 @@ final class FormulaBounds extends Bounds {
 
     /** The formula on top holds just for the numbers for which it is due to hold, at two variables of five. */
     private static void dueHolds(Consumer<Morphichall> made, int x, int y, Predicate<int[]> due) {
-        Morphichall hall = Check.prepared(made);
+        dueHolds(Check.prepared(made), x, y, due);
+        dueHolds(Check.prepared(worn(made)), x, y, due);
+    }
+
+    private static void dueHolds(Morphichall hall, int x, int y, Predicate<int[]> due) {
         for (int one : NUMBERS) {
             for (int other : x == y ? new int[] {one} : NUMBERS) {
                 int[] n = {7, 7, 7, 7, 7};
@@ -148,7 +152,7 @@ final class FormulaBounds extends Bounds {
         for (int x = 0; x < 5; x++) {
             for (int y = 0; y < 5; y++) {
                 for (int z = 0; z < 5; z++) {
-                    Morphichall hall = Check.prepared(then(NEW, "sum", x, y, z));
+                    Morphichall hall = Check.prepared(worn(then(NEW, "sum", x, y, z)));
                     promise(25, "- `z`: a variable, any of them the same");
                     next(1 << x | 1 << y | 1 << z, hall, "free");
                     promise(25, "Puts a formula on the stack: the first and the second one together are the third");
@@ -267,6 +271,16 @@ final class FormulaBounds extends Bounds {
             due(count - 1, Halls.withFormulas(count), "join", false);
             due(count, then(Halls.withFormulas(count), "join", true), "less", 0, 1);
         }
+        Consumer<Morphichall> five = then(then(NEW, "sum", 0, 1, 2), "less", 3, 4);
+        for (boolean isAnd : new boolean[] {true, false}) {
+            promise(29, "Joins the two formulas on top.");
+            due(31, then(five, "join", isAnd), "free");
+            due(isAnd ? 5 : 7, then(five, "join", isAnd), "states");
+            for (int values = 0; values < 4; values++) {
+                due(isAnd ? values == 3 : values > 0, then(five, "join", isAnd), "holds", HIGHEST - 1, values % 2,
+                        HIGHEST, HIGHEST - values / 2, HIGHEST);
+            }
+        }
         for (int values = 0; values < 4; values++) {
             boolean one = values % 2 == 1;
             boolean other = values / 2 == 1;
@@ -332,6 +346,21 @@ final class FormulaBounds extends Bounds {
         dueHolds(then(then(NEW, "sum", 0, 0, 1), "exists", 1), 0, 2, n -> true);
         dueHolds(then(then(NEW, "sum", 0, 0, 1), "exists", 0), 1, 2, n -> n[1] % 2 == 0);
         dueHolds(then(then(NEW, "sum", 0, 1, 2), "exists", 0), 1, 2, n -> n[1] <= n[2]);
+        Consumer<Morphichall> fourTimes = hall -> {
+            hall.sum(0, 0, 2);
+            hall.sum(2, 2, 1);
+            hall.join(true);
+            hall.exists(2);
+        };
+        dueHolds(fourTimes, 0, 1, n -> 4 * n[0] == n[1]);
+        dueHolds(then(fourTimes, "exists", 1), 0, 2, n -> true);
+        dueHolds(then(fourTimes, "exists", 0), 1, 2, n -> n[1] % 4 == 0);
+        due(1, fourTimes, "exists", 1);
+        due(3, fourTimes, "exists", 0);
+        due(40, Halls::fillRing, "exists", 0);
+        due(40, Halls::fillRing, "exists", 1);
+        due(25, Halls::fillRing, "exists", 2);
+        due(1, then(then(Halls::fillRing, "exists", 0), "exists", 1), "exists", 2);
         Consumer<Morphichall> below19 = hall -> {
             below20.accept(hall);
             hall.exists(1);

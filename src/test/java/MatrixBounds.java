@@ -49,10 +49,27 @@ final class MatrixBounds extends Bounds {
     }
 
     private static void entrySentences() {
-        for (String words : new String[] {"- `regular`: ", "- `part`: ", "- `row`: ", "- `column`: ", "- `value`: ",
-            "Tells a number of a sequence of numbers.", "Throws `IndexOutOfBoundsException`",
-            "Throws `IllegalArgumentException`"}) {
-            promise(44, words);
+        Consumer<Morphichall> three = then(NEW, "regular", 3);
+        for (int number = -1; number <= 1; number++) {
+            promise(44, "- `regular`: the sequence of numbers");
+            due(number == 0 ? 0 : INDEX, three, "entry", number, 'l', 0, 0, 9);
+        }
+        for (int at = -1; at <= 3; at++) {
+            boolean is = at >= 0 && at < 3;
+            promise(44, "- `row`: the row, 0 for l");
+            due(at == 0 ? 0 : INDEX, three, "entry", 0, 'l', at, 2, 9);
+            due(is ? 0 : INDEX, three, "entry", 0, '0', at, 2, 9);
+            due(is ? 0 : INDEX, three, "entry", 0, '1', at, 2, 9);
+            due(is ? 0 : INDEX, three, "entry", 0, 'r', at, 0, 9);
+            promise(44, "- `column`: the column, 0 for r");
+            due(is ? 0 : INDEX, three, "entry", 0, 'l', 0, at, 9);
+            due(is ? 0 : INDEX, three, "entry", 0, '0', 2, at, 9);
+            due(is ? 0 : INDEX, three, "entry", 0, '1', 2, at, 9);
+            due(at == 0 ? 0 : INDEX, three, "entry", 0, 'r', 2, at, 9);
+        }
+        for (int value : new int[] {-10, -9, 9, 10}) {
+            promise(44, "- `value`: the number");
+            due(Math.abs(value) == 9 ? 0 : ARGUMENT, three, "entry", 0, '0', 2, 2, value);
         }
         promise(44, "the row is looked at as that of a matrix if there is no such part");
         due(ARGUMENT, then(NEW, "regular", 3), "entry", 0, 'x', 2, 2, 0);
@@ -104,13 +121,10 @@ final class MatrixBounds extends Bounds {
             }
         }
         for (int far : new int[] {Integer.MIN_VALUE, Integer.MAX_VALUE}) {
-            promise(44, "- `row`: the row, 0 for l");
             dueEntry(made, untouched, INDEX, 0, '0', far, 0, 10);
             dueEntry(made, untouched, INDEX, 0, 'l', far, 0, 10);
-            promise(44, "- `column`: the column, 0 for r");
             dueEntry(made, untouched, INDEX, 0, '0', 0, far, 10);
             dueEntry(made, untouched, INDEX, 0, 'r', 0, far, 10);
-            promise(44, "- `value`: the number");
             dueEntry(made, untouched, ARGUMENT, 0, 'r', 0, 0, far);
         }
     }
@@ -119,11 +133,14 @@ final class MatrixBounds extends Bounds {
         String answer = Call.answer(Check.prepared(made), "entry", told);
         String call = Call.told("entry", told);
         if (due == null) {
+            promise(44, "Returns the one before.");
             is(call + " throws", answer.startsWith("throws."), false);
             return;
         }
+        promise(44, "Throws `" + due.getSimpleName() + "`");
         is(call, answer, Call.thrown(due));
-        Check.due("Exceptions: what is seen after " + call, View.of(maker(then(made, "entry", told))), untouched);
+        at("Exceptions", "A method that throws an exception changes nothing.");
+        is("all that is seen after " + call, View.of(maker(then(made, "entry", told))), untouched);
     }
 
     private static void rankOfSix(Morphichall hall) {

@@ -94,6 +94,8 @@ final class NumerationBounds extends Bounds {
         }
         promise(21, "Returns the digit, 0 behind the highest one.");
         next(0, hall, "digitAt", kind, number, text.length());
+        Call.answer(hall, "digits", text.length() < 20 ? '2' : '-', text.length() < 20 ? 1 << text.length() : HIGHEST);
+        next(0, hall, "digitAt", kind, number, text.length());
         next(0, hall, "digitAt", kind, number, text.length() + 1);
         next(0, hall, "digitAt", kind, number, 40);
         next(0, hall, "digitAt", kind, number, Integer.MAX_VALUE);

@@ -175,6 +175,7 @@ final class PathBounds extends Bounds {
         due(false, hall -> sumsUpTo(hall, 198), "isSound");
         promise(52, "lost positions of heaps below 10 are so by their moves");
         due(true, hall -> lostHeap(hall, 10, 10), "isSound");
+        due(true, hall -> lostHeap(hall, 9, 10), "isSound");
         due(false, hall -> lostHeap(hall, 9, 9), "isSound");
         due(false, hall -> lostHeap(hall, 9, 0), "isSound");
         due(false, hall -> lostHeap(hall, 0, 9), "isSound");

@@ -49,11 +49,15 @@ final class PatternBounds extends Bounds {
         String[] patterns = {"a", "ab", "aa", "aab", "aba", "abc", "abba", "abab", "abcd", "aabb", "abcab", "dcbad",
             "abacaba", "aabbcc", "abcabc", "aaabbb", "abcdabcd", "aabbccdd", "abcddabc",
             "aaaaaaaaa", "aaaaabbbbb", "ababababab", "ddddddddda", "abcdabcdab", "abcdabcdabc"};
+        Morphichall hall = new Morphichall();
         for (String pattern : patterns) {
             PlainHall plain = new PlainHall();
             for (char letter : pattern.toCharArray()) {
                 plain.type(letter);
             }
+            Halls.type(hall, pattern);
+            promise(47, "Returns how many words over some letters do not have the pattern.");
+            next(plain.avoiders(2, 8), hall, "avoiders", 2, 8);
             for (int length = 0; length <= 10; length++) {
                 terms("A pattern is the word as it is typed; a word has it if some neighbouring pieces of it");
                 due(plain.avoiders(2, length), word(pattern), "avoiders", 2, length);

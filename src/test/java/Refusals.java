@@ -15,6 +15,9 @@ import java.util.function.Consumer;
  */
 final class Refusals {
     private static final int CALLS_OF_A_HALL = 400;
+    private static final String NOTHING_CHANGES = "Exceptions (A method that throws an exception changes nothing.): ";
+    private static final String FIRST_IS_THROWN = "Exceptions (If several exceptions apply, the one that is listed"
+            + " first is thrown.): ";
     private static final Set<String> METHODS = new TreeSet<>();
 
     private final String section;
@@ -170,20 +173,33 @@ final class Refusals {
         Object[] told = chosen.stream().map(value -> value.told).toArray();
         Class<?> due = listed.stream().filter(applying::contains).findFirst().orElse(null);
         met.add(applying);
-        String name = section + ": " + Call.told(method, told) + " with " + place.name;
-        checkAnswer(name + reasons(applying), Call.answer(Check.prepared(place.made), method, told), due);
+        String name = Call.told(method, told) + " with " + place.name;
+        checkAnswer(wordsFor(place, chosen, due) + name, Call.answer(Check.prepared(place.made), method, told), due);
         if (due != null) {
             String touched = View.of(() -> {
                 Morphichall hall = Check.prepared(place.made);
                 Call.answer(hall, method, told);
                 return hall;
             });
-            Check.due("Exceptions: what is seen after " + name, touched, untouched);
+            Check.due(NOTHING_CHANGES + name, touched, untouched);
         }
     }
 
-    private static String reasons(Set<Class<?>> applying) {
-        return applying.size() < 2 ? "" : " (Exceptions: of several the one that is listed first)";
+    /** The sentence that the mix is about: that of the one thing that is wrong, or of several that are. */
+    private String wordsFor(Place place, List<Value> chosen, Class<?> due) {
+        List<String> wrong = new ArrayList<>();
+        for (int i = 0; i < chosen.size(); i++) {
+            if (chosen.get(i).brings != null) {
+                wrong.add("- `" + arguments.get(i).name + "`: ");
+            }
+        }
+        if (!place.brings.isEmpty()) {
+            wrong.add("Throws `" + due.getSimpleName() + "`");
+        }
+        if (wrong.size() > 1 || place.brings.size() > 1) {
+            return FIRST_IS_THROWN;
+        }
+        return section + " (" + (wrong.isEmpty() ? "all is right" : Doc.sentence(section, wrong.get(0))) + "): ";
     }
 
     private void checkAnswer(String name, String answer, Class<?> due) {
@@ -205,8 +221,7 @@ final class Refusals {
             if (!values.isEmpty()) {
                 int last = at;
                 String touched = View.of(() -> tryAlone(place, last, values.subList(0, 2)));
-                Check.due("Exceptions: what is seen after " + section + ", " + arguments.get(at).name, touched,
-                        untouched);
+                Check.due(NOTHING_CHANGES + method + ", " + arguments.get(at).name, touched, untouched);
             }
         }
     }
@@ -214,10 +229,11 @@ final class Refusals {
     private Morphichall tryAlone(Place place, int at, List<Value> values) {
         Morphichall hall = Check.prepared(place.made);
         Object[] told = arguments.stream().map(argument -> argument.mixed.get(0).told).toArray();
+        String words = section + " (" + Doc.sentence(section, "- `" + arguments.get(at).name + "`: ") + "): ";
         for (Value value : values) {
             told[at] = value.told;
-            checkAnswer(section + ": " + Call.told(method, told) + " with " + place.name,
-                    Call.answer(hall, method, told), value.brings);
+            checkAnswer(words + Call.told(method, told) + " with " + place.name, Call.answer(hall, method, told),
+                    value.brings);
         }
         return hall;
     }

@@ -247,7 +247,7 @@ final class SequenceBounds extends Bounds {
             for (int length = 1; length <= 6; length++) {
                 String[] images = new String[letters];
                 for (int i = 0; i < letters; i++) {
-                    images[i] = (LETTERS.substring(i, letters) + "abbaab").substring(0, length);
+                    images[i] = LETTERS.substring(0, letters).repeat(5).substring(i + 1, i + 1 + length);
                 }
                 terms("A uniform morphism of images of 2 to 4 letters makes an automaton of that base");
                 boolean is = length >= 2 && length <= 4;
