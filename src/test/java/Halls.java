@@ -117,7 +117,7 @@ final class Halls {
             hall.slopeNumber(1 + i);
         }
         for (int i = 0; i < 4; i++) {
-            hall.regular(1 + i % 3);
+            hall.regular(3 - i % 3);
         }
         for (int i = 0; i < 40; i++) {
             hall.type("abc".charAt(i % 3));
@@ -152,12 +152,12 @@ final class Halls {
         });
     }
 
-    /** Something of all, and a row for slopes of so many numbers, or of none. */
+    /** Something of all, and a row for slopes of so many numbers, so small that the last one still counts. */
     static Consumer<Morphichall> withRow(int numbers) {
         return hall -> {
             fillWithoutRow(hall);
             for (int i = 0; i < numbers; i++) {
-                hall.slopeNumber(1 + i);
+                hall.slopeNumber(1 + i % 2);
             }
         };
     }
@@ -192,7 +192,7 @@ final class Halls {
     static Consumer<Morphichall> withRegulars(int count) {
         return with(hall -> {
             for (int i = 1; i < count; i++) {
-                hall.regular(1 + i % 3);
+                hall.regular(3 - i % 3);
             }
         });
     }

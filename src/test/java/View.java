@@ -1,8 +1,11 @@
+import java.util.List;
+import java.util.function.Consumer;
 import java.util.function.Supplier;
 
 /**
- * Tells as one text what can be seen of a hall by its calls. Looking uses a hall up, so that there are three looks,
- * each at a hall that was made anew, and each of so few calls that no hall comes to more than 512.
+ * Tells as one text what can be seen of a hall by its calls. Looking uses a hall up, so that there are some looks,
+ * each at a hall that was made anew, and each of so few calls that no hall comes to more than 512. A look makes no
+ * call that is refused before it has seen what it looks at.
  */
 final class View {
     private static final int MOST_CALLS = 380;
@@ -16,18 +19,15 @@ final class View {
     }
 
     static String of(Supplier<Morphichall> halls) {
-        View first = new View(halls.get());
-        first.seeFormulas();
-        first.seeNumbers();
-        View second = new View(halls.get());
-        second.seeTexts();
-        second.seeArrows();
-        second.seeTurtle();
-        View third = new View(halls.get());
-        third.seeWord();
-        third.seeMorphisms();
-        third.seeSlopeRow();
-        return first.told() + second.told() + third.told();
+        StringBuilder out = new StringBuilder();
+        List<Consumer<View>> looks = List.of(View::seeFormulas, View::seeNumbers, View::seeSequences,
+                View::seeMorphisms, View::seeWordAndRow);
+        for (Consumer<View> look : looks) {
+            View view = new View(halls.get());
+            look.accept(view);
+            out.append(view.told()).append('\n');
+        }
+        return out.toString();
     }
 
     private String told() {
@@ -73,44 +73,34 @@ final class View {
         see("regular", 1);
     }
 
-    private void seeTexts() {
+    private void seeSequences() {
         see("sequences");
         see("checksum");
-        for (int number = 0; see("pieces", number, 5); number++) {
-            see("meanLetter", number, 1000);
-            see("letterAt", number, 1023);
-            see("letterAt", number, 1024);
-            see("least", number);
-            see("kernel", number, 1);
+        int count = hall.sequences();
+        for (int number = 0; number < count; number++) {
+            seeText(number);
             for (char what : new char[] {'x', 'y', 'n'}) {
                 see("path", number, 100, what);
             }
         }
-    }
-
-    private void seeArrows() {
-        for (int number = 0; number < 8; number++) {
+        for (int number = 0; number < count; number++) {
             for (int state = 0; see("give", number, state, 'a'); state++) {
                 for (int digit = 0; see("arrow", number, state, digit, 0); digit++) {
                     continue;
                 }
             }
         }
-    }
-
-    private void seeTurtle() {
         for (char letter = 'a'; letter <= 'd'; letter++) {
             see("command", letter, '-');
         }
     }
 
-    private void seeWord() {
-        see("avoiders", 2, 8);
-        see("avoiders", 3, 6);
-        see("morphism", 4);
-        see("setImage", 0, 'b');
-        see("setImage", 5, 'd');
-        see("wipe");
+    private void seeText(int number) {
+        see("meanLetter", number, 1000);
+        see("pieces", number, 12);
+        see("palindromes", number, 4);
+        see("exponent", number, 120);
+        see("letterAt", number, 1023);
     }
 
     private void seeMorphisms() {
@@ -120,15 +110,41 @@ final class View {
                 see("grown", number, letter, 2);
                 see("grown", number, letter, 7);
             }
-            see("fixed", number);
+        }
+        for (int number = 0; number < 6; number++) {
             see("automatonOf", number);
+            see("fixed", number);
         }
         see("checksum");
+        see("morphism", 4);
     }
 
-    private void seeSlopeRow() {
+    /** The word becomes the image of b, behind a, in a morphism whose fixed word then shows it. */
+    private void seeWordAndRow() {
+        see("avoiders", 2, 8);
+        see("avoiders", 3, 6);
+        int shown = hall.sequences();
+        if (see("slope")) {
+            for (int place = 0; place < 1024; place += 5) {
+                see("letterAt", shown, place);
+            }
+            shown++;
+        }
         see("slopeNumber", 9);
-        see("slope");
-        see("checksum");
+        int number = 0;
+        while (!Call.answer(hall, "uniform", number).startsWith("throws.")) {
+            number++;
+        }
+        number = see("morphism", 4) ? number : 0;
+        see("setImage", number, 'b');
+        see("wipe");
+        see("type", 'a');
+        see("type", 'b');
+        see("setImage", number, 'a');
+        if (see("fixed", number)) {
+            for (int place = 0; place < 12; place++) {
+                see("letterAt", shown, place);
+            }
+        }
     }
 }

@@ -55,7 +55,8 @@ final class WordBounds extends Bounds {
 
     private static void type() {
         new Refusals(2, "type").signs("letter", LETTERS, ARGUMENT)
-                .hall("no letter", Halls.withWord(0)).hall("39 letters", Halls.withWord(39))
+                .hall("no letter", Halls.withWord(0)).hall("a word of 5", Halls.withWord(5))
+                .hall("39 letters", Halls.withWord(39))
                 .hall("40 letters", Halls.withWord(40), STATE).check();
         promise(2, "Types a letter behind the word.");
         Consumer<Morphichall> four = hall -> Halls.morphism(hall, "abcd", "b", "c", "d");
