@@ -9,6 +9,7 @@ final class PatternsTest {
         known();
         edges();
         allShortPatterns();
+        allShapes("", 0);
         wrong();
         Check.end("PatternsTest");
     }
@@ -56,15 +57,29 @@ final class PatternsTest {
                 for (int i = 0; i < length; i++) {
                     pattern.append((char) ('a' + (number >> 2 * i & 3)));
                 }
-                Morphichall hall = new Morphichall();
-                PlainHall plain = new PlainHall();
-                Halls.type(hall, pattern.toString());
-                for (char letter : pattern.toString().toCharArray()) {
-                    plain.type(letter);
-                }
-                Check.due("47: avoiders(2, 9) of " + pattern, hall.avoiders(2, 9), plain.avoiders(2, 9));
-                Check.due("47: avoiders(3, 6) of " + pattern, hall.avoiders(3, 6), plain.avoiders(3, 6));
+                dueAsPlain(pattern.toString(), 2, 9);
+                dueAsPlain(pattern.toString(), 3, 6);
             }
+        }
+    }
+
+    private static void dueAsPlain(String pattern, int letters, int length) {
+        Morphichall hall = new Morphichall();
+        PlainHall plain = new PlainHall();
+        Halls.type(hall, pattern);
+        for (char letter : pattern.toCharArray()) {
+            plain.type(letter);
+        }
+        Check.due("47: avoiders(" + letters + ", " + length + ") of " + pattern, hall.avoiders(letters, length),
+                plain.avoiders(letters, length));
+    }
+
+    /** In words of 10 letters some of these patterns have hundreds of lengths for their pieces, all of them needed. */
+    private static void allShapes(String pattern, int used) {
+        for (int letter = 0; letter <= used && letter < 4 && pattern.length() < 5; letter++) {
+            String longer = pattern + (char) ('a' + letter);
+            dueAsPlain(longer, 3, 10);
+            allShapes(longer, Math.max(used, letter + 1));
         }
     }
 
